@@ -154,6 +154,8 @@ public final class PromisesTest {
         for (int i = 0; i < 6; i++) c.due("foot(40, " + i + ")", x.foot(40, i), foot[i]);
         c.due("foot(2, 0)", x.foot(2, 0), 0);
         c.due("foot(1, 0)", x.foot(1, 0), 1);
+        Check.type(x, "rack 10 5;at 40 1;top 40;");
+        c.due("text() once more of the same FOOT and size", x.text(), 3);
         StringBuilder most = new StringBuilder("at 1 1;");
         for (int h = 2; h <= 9; h++) most.append("at ").append(h).append(" 1;");
         for (int h = 10; h <= 40; h++) most.append("at ").append(h).append(" 1;");
@@ -185,6 +187,7 @@ public final class PromisesTest {
         text("tops 5;", -10, 2);
         text("to 5;", -10, 2);
         text("nearly 5;", -10, 2);
+        text("z 5;", -10, 2);
         text("top", -13, 2);
         text("top  ", -15, 2);
         text("top 5", -15, 2);
@@ -586,6 +589,14 @@ public final class PromisesTest {
         c.due("plan(0)", x.plan(0), 0);
         c.due("plan(1)", x.plan(1), 1);
         c.due("plan(10), the least bits", x.plan(10), 2);
+        // Either of 2 and 3, and of 7 and 8, does; one piece of each size: 2 and 8 (bits 9), 3 and 7 (bits 6).
+        x = Check.wall("top 8;low 0;give 0;holds 60;rack 1 1;rack 2 1;at 1 0;at 2 0 crack 1;at 3 1 crack 2;"
+            + "at 4 0;at 5 0;at 6 0;at 7 0 crack 1;at 8 1 crack 2;");
+        c.due("plan(0)", x.plan(0), 0);
+        c.due("plan(10), the least bits", x.plan(10), 3);
+        c.due("plan(11), the least bits", x.plan(11), 7);
+        x = Check.wall("top 3;low 2;give 0;rack 10 1;at 2 1 crack 10;");
+        c.due("plan(1) of size 10", x.plan(1), 1);
         // Too much: at 2 nothing is left for a piece.
         x = Check.wall("top 3;low 2;strength 3;place 1;rack 1 3;at 2 1 crack 1;at 3 1 crack 1;");
         c.due("plan(0)", x.plan(0), 3);
@@ -661,6 +672,17 @@ public final class PromisesTest {
         c.due("best(2)", x.best(2), 0);
         x = Check.wall("top 40;strength 39;place 0;rack 1 1;at 1 1 crack 1;");
         c.due("PLAN is TOO MUCH", x.best(1), -4);
+        // Each rule puts a piece at 40, which is TOO MUCH; the plan puts none. A new wall is looked at anew.
+        x = Check.wall("top 3;");
+        c.due("best(1)", x.best(1), 3);
+        Check.type(x, "top 40;strength 45;place 10;rack 1 1;at 40 1 crack 1;");
+        x.text();
+        c.due("plan(1)", x.plan(1), 0);
+        c.due("best(0)", x.best(0), -4);
+        Check.type(x, "top 4;");
+        x.text();
+        c.due("best(0)", x.best(0), 40);
+        c.due("best(1)", x.best(1), 7);
         int[] bad = {-1, 3, MIN, MAX};
         for (int what : bad) c.due("best(" + what + ")", x.best(what), -1);
     }
@@ -722,6 +744,12 @@ public final class PromisesTest {
         x.put(2, 1);
         c.due("slings(2, 0)", x.slings(2, 0), 0);
         c.due("slings(2, 1), the fewest", x.slings(2, 1), 2);
+        // They are off by 1 and by 2: a SLING saves 1 at either.
+        x = Check.wall("top 3;rack 1 2;at 1 1 crack 1;at 2 1 crack 1 side 4;at 3 1 side 1;");
+        x.put(1, 1);
+        x.put(2, 1);
+        c.due("slings(1, 0)", x.slings(1, 0), 2);
+        c.due("slings(1, 1), the least", x.slings(1, 1), 1);
         int[] ns = {-1, 11, MIN, MAX};
         for (int n : ns) c.due("slings(" + n + ", 0)", x.slings(n, 0), -1);
         int[] bad = {-1, 2, MIN, MAX};
@@ -793,6 +821,10 @@ public final class PromisesTest {
         c.due("down(7)", x.down(7), 4);
         c.due("down(6)", x.down(6), 3);
         c.due("down(4)", x.down(4), 2);
+        x = Check.wall("top 40;rope 60;at 10 1 rest;");
+        c.due("down(40)", x.down(40), 2);
+        c.due("down(39)", x.down(39), 3);
+        c.due("down(30)", x.down(30), 2);
         x = Check.wall("top 3;rope 1;");
         c.due("down(1)", x.down(1), -4);
         c.due("down(0)", x.down(0), 0);
@@ -1125,5 +1157,13 @@ public final class PromisesTest {
         for (int i = 0; i < 9; i++) c.due("count(" + i + ")", x.count(i), counts[i]);
         int[] bad = {-1, 9, MIN, MAX};
         for (int what : bad) c.due("count(" + what + ")", x.count(what), -1);
+        x = Check.wall("rack 10 4;rack 1 3;at 20 1 crack 10 ledge rest;");
+        x.put(20, 10);
+        x.image(0);
+        x.take(20);
+        c.due("count(4) of sizes 1 and 10", x.count(4), 7);
+        x.back(0);
+        c.due("count(4) behind back(0)", x.count(4), 6);
+        for (int i = 1; i <= 3; i++) c.due("count(" + i + ") at TOP", x.count(i), 1);
     }
 }
