@@ -1056,7 +1056,7 @@ public final class TwoOnWall {
         }
     }
 
-    /** Chances as fractions of whole numbers: at most 40 times 20 to the 10th, so nothing wraps around. */
+    /** Chances as fractions of whole numbers: at most 360 times 20 to the 10th, so nothing wraps around. */
     private static final class Chances {
         private final Wall wall;
         private final Fall fall = new Fall();
