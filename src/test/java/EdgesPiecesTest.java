@@ -141,6 +141,22 @@ public final class EdgesPiecesTest extends Edges {
         }
     }
 
+    @Edge(of = 8, words = "by FEET (PIECE 0 is the lowest)")
+    void p08ThoseAboveStayAsTheyAre() {
+        TwoOnWall x = Check.wall(TWELVE);
+        x.put(12, 2);
+        x.sling(12, true);
+        x.put(9, 3);
+        x.put(5, 1);
+        int[][] due = {{5, 1, 10, 0}, {9, 3, 18, 0}, {12, 2, 10, 1}};
+        for (int k = 0; k < 3; k++) {
+            due("piece(" + k + ", 0)", x.piece(k, 0), due[k][0]);
+            due("piece(" + k + ", 1)", x.piece(k, 1), due[k][1]);
+            due("piece(" + k + ", 2)", x.piece(k, 2), due[k][2]);
+            due("piece(" + k + ", 4)", x.piece(k, 4), due[k][3]);
+        }
+    }
+
     @Edge(of = 8, words = "what is refused changes nothing (but THE TAPE, as told)")
     void p08RefusedChangesNothing() {
         changesNothing(EdgesPiecesTest::two, x -> {
@@ -182,7 +198,10 @@ public final class EdgesPiecesTest extends Edges {
         TwoOnWall x = ten();
         x.sling(10, true);
         due("take(1)", x.take(1), 1);
-        for (int k = 0; k < 9; k++) due("piece(" + k + ", 0)", x.piece(k, 0), k + 2);
+        for (int k = 0; k < 9; k++) {
+            due("piece(" + k + ", 0)", x.piece(k, 0), k + 2);
+            due("piece(" + k + ", 1)", x.piece(k, 1), (k + 5) / 4);
+        }
         due("piece(9, 0)", x.piece(9, 0), BAD);
         due("piece(8, 4)", x.piece(8, 4), 1);
         due("piece(7, 4)", x.piece(7, 4), 0);

@@ -62,6 +62,7 @@ public final class EdgesPlansTest extends Edges {
         plans(ledges(4) + "rack1 3;", 1, 1, 2, 3);
         plans(ledges(6) + "rack1 5;", 1, 1, 2, 3, 4, 5);
         plans(ledges(6) + "rack1 0;rack2 1;", 5, 6);
+        plans(ledges(4).replace("crack1", "crack10") + "rack10 3;", 1, 1, 2, 3);
     }
 
     @Edge(of = 18, words = "that with the least RISK that is not TOO MUCH")
@@ -148,6 +149,7 @@ public final class EdgesPlansTest extends Edges {
         keeps(Check.wall(ledges(10)), 1, 10, 0, 0);
         keeps(Check.wall(ledges(10) + "rack3 5;"), 1, 10, 0, 0);
         keeps(Check.wall(ledges(5) + "rack2 5;"), 1, 5, 0, 0);
+        keeps(Check.wall(ledges(4).replace("crack1", "crack10") + "rack10 3;"), 1, 1, 3, 0);
     }
 
     @Edge(of = 19, words = "(the lowest 10 of them at most)")
@@ -167,6 +169,8 @@ public final class EdgesPlansTest extends Edges {
         keeps(x, 2, 5, 5, 1);
         keeps(x, 3, 7, 3, 0);
         keeps(Check.wall("top 2;strength 1;"), 40, 0, 0, 1);
+        keeps(Check.wall("top 2;strength 1;at 1 2 rest;"), 40, 0, 0, 1);
+        keeps(Check.wall("top 2;strength 2;at 1 2 rest;"), 40, 0, 0, 0);
     }
 
     @Edge(of = 19, words = "(PIECES as for plan().)")

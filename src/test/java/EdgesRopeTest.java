@@ -115,6 +115,20 @@ public final class EdgesRopeTest extends Edges {
         due("slings(1, 1) of one that is not off", between(5, 5).slings(1, 1), 0);
         due("slings(1, 1) of one that is off by 1", between(5, 6).slings(1, 1), 1);
         due("slings(1, 0) of one that is off by 1", between(5, 6).slings(1, 0), 0);
+        due("slings(10, 1) of one that is not off, from one side to the other", between(7, 9).slings(10, 1), 0);
+        due("slings(10, 1) of one that is not off, from one side to the other", between(3, 1).slings(10, 1), 0);
+        // They are off by 1 and by 2, or by 3 and by 4: a SLING saves as much at either.
+        TwoOnWall x = Check.wall("top 3;rack 1 2;at 1 1 crack 1;at 2 1 crack 1 side 4;at 3 1 side 1;");
+        x.put(1, 1);
+        x.put(2, 1);
+        due("slings(1, 0)", x.slings(1, 0), 2);
+        due("slings(1, 1)", x.slings(1, 1), 1);
+        due("slings(2, 1)", x.slings(2, 1), 3);
+        x = Check.wall("top 3;rack 1 2;at 1 1 crack 1 side 4;at 2 1 crack 1 side 6;at 3 1 side 4;");
+        x.put(1, 1);
+        x.put(2, 1);
+        due("slings(1, 0)", x.slings(1, 0), 5);
+        due("slings(1, 1)", x.slings(1, 1), 1);
     }
 
     @Edge(of = 23, words = "wherever, others without")
@@ -257,6 +271,8 @@ public final class EdgesRopeTest extends Edges {
             due("leads(3, 3, false, 10 and " + i + "), alike", x.leads(3, 3, false, 10 + i), 0);
             due("leads(1, 2, true, 10 and " + i + ")", x.leads(1, 2, true, 10 + i), i % 2);
             due("leads(2, 1, true, 10 and " + i + ")", x.leads(2, 1, true, 10 + i), 1 - i % 2);
+            due("leads(1, 2, false, 10 and " + i + ")", x.leads(1, 2, false, 10 + i), i < 2 ? 1 : 0);
+            due("leads(2, 1, false, 10 and " + i + ")", x.leads(2, 1, false, 10 + i), 0);
         }
     }
 

@@ -72,6 +72,13 @@ public final class EdgesSheetsTest extends Edges {
             due("piece(" + k + ", 4)", x.piece(k, 4), k % 2);
         }
         due("put(11, 3)", x.put(11, 3), FULL);
+        x = Check.wall("rack 10 2;rack 1 3;at 1 1 crack 10;at 2 1 crack 1;");
+        x.put(1, 10);
+        x.image(0);
+        x.strip();
+        x.back(0);
+        due("rule(20)", x.rule(20), 1);
+        due("rule(11)", x.rule(11), 3);
     }
 
     @Edge(of = 33, words = "what is refused changes nothing (but THE TAPE, as told)")
@@ -119,8 +126,18 @@ public final class EdgesSheetsTest extends Edges {
         due("rule(12)", x.rule(12), 5);
         due("rule(13)", x.rule(13), 4);
         due("count(5)", x.count(5), 3);
-        due("eye(0, 1)", x.eye(0, 1), 2);
-        due("eye(1, 1)", x.eye(1, 1), 1);
+        part("eye(0)", x.eye(0, 0), x.eye(0, 1), 1, 2);
+        part("eye(1)", x.eye(1, 0), x.eye(1, 1), 1, 1);
+        x.tried(0, true);
+        x.tried(1, false);
+        x.back(0);
+        part("eye(0)", x.eye(0, 0), x.eye(0, 1), 1, 2);
+        part("eye(1)", x.eye(1, 0), x.eye(1, 1), 1, 1);
+        x.tried(0, true);
+        x.tried(1, true);
+        x.back(0);
+        part("eye(0)", x.eye(0, 0), x.eye(0, 1), 1, 2);
+        part("eye(1)", x.eye(1, 0), x.eye(1, 1), 1, 1);
         due("back(1)", x.back(1), 1);
         due("piece(0, 0)", x.piece(0, 0), 12);
         due("piece(0, 4)", x.piece(0, 4), 0);
@@ -208,6 +225,13 @@ public final class EdgesSheetsTest extends Edges {
         due("read of 0, 1", x.read(0, 0, 2, 1), -20);
         due("read of the other SHEET", x.read(1, 0, 0, 1), 1);
         x.strip();
+        x.sheet(1, 0, 2);
+        x.lay(1, 1, 1);
+        due("read of 0, 1", x.read(1, 0, 0, 1), -20);
+        lay(x, 2, 2, 1, 1);
+        x.sheet(2, 2, 2);
+        x.lay(2, 0, 1);
+        due("read of 1, 0", x.read(2, 2, 0, 1), -20);
         due("sheet(0, 2, 1)", x.sheet(0, 2, 1), 1);
         due("lay(0, 1, 1) of fewer", x.lay(0, 1, 1), -12);
         due("read by the former lane", x.read(0, 0, 0, 1), 0);

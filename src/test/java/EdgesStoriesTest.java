@@ -277,6 +277,18 @@ public final class EdgesStoriesTest extends Edges {
         due("story of HARD 0", x.story(0, 0), 6);
         likely(Check.wall("top 2;at 1 0;at 2 9;"), 0, 0, 1, 0, 1);
         likely(Check.wall("top 2;at 1 0;at 2 9;"), 0, 0, 2, 1, 1);
+        // Held by the lower one: from 8 by HARD 5, from 9 by HARD 3, from 10 by HARD 0.
+        x = pieces("rack 2 1;at 6 1 crack 1;at 8 5;at 9 3;at 10 0;");
+        likely(x, 2, 0, 8, 5, 8);
+        likely(x, 2, 0, 9, 3, 8);
+        likely(x, 2, 0, 10, 0, 1);
+        // Held by the upper one from 8, or by the lower one from 4.
+        likely(x, 0, 4, 8, 5, 6);
+        likely(x, 0, 4, 4, 1, 6);
+        x.take(6);
+        x.put(6, 2);
+        likely(x, 0, 4, 8, 25, 34);
+        likely(x, 0, 4, 4, 9, 34);
     }
 
     @Edge(of = 31, words = "PIECES (10 at most) are in CRACKS")

@@ -86,6 +86,24 @@ public final class EdgesTextTest extends Edges {
         due("text()", x.text(), 0);
     }
 
+    @Edge(of = 1, words = "As told at first")
+    void p01WhatTheFirstWallAnswers() {
+        due("plan(0)", new TwoOnWall().plan(0), 207);
+        due("plan(1)", new TwoOnWall().plan(1), 0);
+        due("keep(1, 0)", new TwoOnWall().keep(1, 0), 207);
+        due("best(0)", new TwoOnWall().best(0), 40);
+        due("best(1)", new TwoOnWall().best(1), 207);
+        due("adopt()", new TwoOnWall().adopt(), 0);
+        due("pitches(0)", new TwoOnWall().pitches(0), 1);
+        due("pitches(10)", new TwoOnWall().pitches(10), 20);
+        due("leads(1, 1, true, 0)", new TwoOnWall().leads(1, 1, true, 0), 20);
+        due("down(20)", new TwoOnWall().down(20), 1);
+        // A FALL from 10 on is 1 longer, that from 20 by 2: the second BOLT from 3 up is 7 at least.
+        int[] bolts = {2, 4, 7, 12, BAD};
+        due("bolts(0)", new TwoOnWall().bolts(0), 4);
+        for (int i = 0; i < 5; i++) due("bolts(10 and " + i + ")", new TwoOnWall().bolts(10 + i), bolts[i]);
+    }
+
     @Edge(of = 1, words = "BAD -1 (a number is not as told, there is no such FOOT, PIECE, IMAGE, SHEET), STATE -2 (as told), FULL -3, NONE -4 (there is none)")
     void p01Constants() {
         due("BAD", TwoOnWall.BAD, -1);
@@ -274,6 +292,26 @@ public final class EdgesTextTest extends Edges {
         text("at 12 1;", 1, 0);
         text("at 1 2 1;", -17, 2);
         text("low 01;", 1, 0);
+    }
+
+    @Edge(of = 4, words = "2 a TOKEN that can not stand there (a NAME that begins no line, is no with; or the end: the length).")
+    void p04NamesToTheLetter() {
+        String[] lines = {"at", "rack", "top", "strength", "place", "rope", "give", "fits", "holds", "low"};
+        for (String name : lines) otherNames("", name);
+        String[] withs = {"crack", "ledge", "rest", "side"};
+        for (String name : withs) otherNames("at 1 1 ", name);
+    }
+
+    /** A NAME with one letter changed, one less or one more is none. */
+    private void otherNames(String ahead, String name) {
+        for (int i = 0; i < name.length(); i++) {
+            char other = name.charAt(i) == 'z' ? 'a' : (char) (name.charAt(i) + 1);
+            text(ahead + name.substring(0, i) + other + name.substring(i + 1) + " 1 1;", -10 - ahead.length(), 2);
+            text(ahead + name.substring(0, i) + name.substring(i + 1) + " 1 1;", -10 - ahead.length(), 2);
+            text(ahead + name.substring(0, i) + 'q' + name.substring(i) + " 1 1;", -10 - ahead.length(), 2);
+        }
+        text(ahead + name + name + " 1 1;", -10 - ahead.length(), 2);
+        text(ahead + name + "q 1 1;", -10 - ahead.length(), 2);
     }
 
     @Edge(of = 4, words = "blanks (32) ahead, between, behind, as many as wanted")
@@ -626,6 +664,58 @@ public final class EdgesTextTest extends Edges {
         due("down(20)", x.down(20), first.down(20));
     }
 
+    private static final String[] WALLS = {
+        "", "top 40;rope 5;", "top 3;low 1;strength 4;place 1;rack 1 1;rack 2 1;at 1 1 crack 1;at 2 1 crack 2;", "top 1;strength 1;at 1 2;",
+        "top37;rope2;at2 1rest;at4 3ledge;at6 1rest;at8 1rest;at10 1rest;at12 1rest;at14 1ledge;at15 1rest;at17 9rest;at19 1rest;"
+            + "at21 1rest;at23 1rest;at25 1rest;at27 1rest;at28 2rest;at29 1rest;at31 1rest;at33 1rest;at35 1rest;rack10 3;at36 1crack10;",
+        "top 12;low 0;give 0;rack 10 2;rack 9 5;at 3 1 crack 10;at 5 1 crack 9;at 6 2 crack 9;at 9 9 crack 10 rest;at 12 3 crack 9;",
+        "top 2;low 0;give 50;at 1 1 ledge;", "top 6;low 6;give 0;rope 3;at 3 5 rest;at 6 9;"};
+
+    /** What hangs on the text alone: asked once, it is not the same for the next one. */
+    private static String plans(TwoOnWall x) {
+        StringBuilder all = new StringBuilder();
+        for (int i = 0; i < 21; i++) all.append(x.plan(i)).append(' ').append(x.pitches(i)).append(' ').append(x.bolts(i)).append(' ');
+        for (int i = 0; i < 3; i++) all.append(x.best(i)).append(' ').append(x.keep(2, i)).append(' ').append(x.keep(5, i)).append(' ');
+        for (int i = 10; i < 30; i++) all.append(x.leads(2, 3, false, i)).append(' ').append(x.leads(3, 2, true, i)).append(' ');
+        all.append(x.leads(2, 3, false, 0)).append(' ').append(x.leads(2, 3, true, 0));
+        for (int h = 0; h <= 40; h++) all.append(' ').append(x.down(h));
+        for (int i = 0; i < 5; i++) all.append(' ').append(x.risk(i));
+        return all.toString();
+    }
+
+    @Edge(of = 4, words = "A text that is taken tells all, in place of what there was (what it does not tell is as at first)")
+    void p04WhatWasAskedOfTheTextBefore() {
+        for (String before : WALLS) {
+            for (String now : WALLS) {
+                TwoOnWall x = Check.wall(before);
+                plans(x);
+                Check.type(x, now);
+                x.text();
+                due("the same of <" + now + "> behind <" + before + ">", plans(x).equals(plans(Check.wall(now))) ? 1 : 0, 1);
+            }
+        }
+    }
+
+    @Edge(of = 4, words = "4 at of a FOOT, rack of a size for the second time (it)")
+    void p04EachTextTellsAnew() {
+        StringBuilder most = new StringBuilder("top40;");
+        for (int h = 1; h <= 40; h++) most.append("at").append(h).append(" 2;");
+        for (int s = 1; s <= 10; s++) most.append("rack").append(s).append(" 3;");
+        TwoOnWall x = new TwoOnWall();
+        for (int round = 0; round < 3; round++) {
+            Check.type(x, most.toString());
+            due("text()", x.text(), 51);
+        }
+        due("foot(40, 0)", x.foot(40, 0), 2);
+        due("rule(20)", x.rule(20), 3);
+        Check.type(x, "top 40;strength 9;place 9;rope 9;give 9;fits 9 9;holds 9;low 9;");
+        due("text()", x.text(), 8);
+        due("foot(40, 0)", x.foot(40, 0), 1);
+        for (int s = 11; s <= 20; s++) due("rule(" + s + ")", x.rule(s), 0);
+        Check.type(x, "top 40;strength 9;place 9;rope 9;give 9;fits 9 9;holds 9;low 9;");
+        due("text()", x.text(), 8);
+    }
+
     @Edge(of = 4, words = "no PIECES, no TRIES; IMAGES are gone; SHEETS stay.")
     void p04WhatATextLeaves() {
         TwoOnWall x = used();
@@ -641,6 +731,8 @@ public final class EdgesTextTest extends Edges {
         due("read of what the SHEET held", x.read(0, 0, 0, 1), 1);
         due("piece(0, 0)", x.piece(0, 0), 3);
         due("a PIECE that comes has no SLING", x.piece(0, 4), 0);
+        x.tried(0, false);
+        due("eye(0, 0), none held now", x.eye(0, 0), 0);
         due("lay(3, 0, 1)", x.lay(3, 0, 1), 1);
         due("lay(3, 1, 1)", x.lay(3, 1, 1), -12);
         due("lay(1, 0, 1)", x.lay(1, 0, 1), -11);
