@@ -17,6 +17,10 @@ import java.util.function.Supplier;
 abstract class Edges {
     static final int MIN = Integer.MIN_VALUE, MAX = Integer.MAX_VALUE;
     static final int BAD = -1, STATE = -2, FULL = -3, NONE = -4;
+    /** Twelve CRACKS, four of each of the sizes 1 to 3, and five PIECES of each. */
+    static final String TWELVE = "top 12;rack 1 5;rack 2 5;rack 3 5;at 1 1 crack 1;at 2 1 crack 1;at 3 1 crack 1;"
+        + "at 4 1 crack 1;at 5 1 crack 2;at 6 1 crack 2;at 7 1 crack 2;at 8 1 crack 2;at 9 1 crack 3;at 10 1 crack 3;"
+        + "at 11 1 crack 3;at 12 1 crack 3;";
 
     private final String document;
     private final Set<Integer> promises = new TreeSet<>();
@@ -30,22 +34,36 @@ abstract class Edges {
         }
     }
 
-    /** All the tests of promises from to to; the machine ends with 1 if one fails. */
+    /** All the tests; the machine ends with 1 if one fails, or if one of the promises from to to has none. */
     final void run(int from, int to) {
-        List<Method> tests = new ArrayList<>();
-        for (Method m : getClass().getDeclaredMethods()) {
-            if (m.isAnnotationPresent(Edge.class)) tests.add(m);
-        }
-        tests.sort(Comparator.comparing(Method::getName));
+        List<Method> tests = tests();
         int failed = 0;
         for (Method test : tests) failed += passes(test) ? 0 : 1;
+        int passed = tests.size() - failed;
         for (int n = from; n <= to; n++) {
             if (promises.contains(n)) continue;
             failed++;
             System.out.println("FAILED: promise " + n + " has no test of an edge");
         }
-        System.out.println(getClass().getName() + ": " + (tests.size() - failed) + " passed, " + failed + " failed");
+        System.out.println(getClass().getName() + ": " + passed + " passed, " + failed + " failed");
         if (failed != 0) System.exit(1);
+    }
+
+    /** The name of the first test that fails, or "". */
+    final String firstThatFails() {
+        for (Method test : tests()) {
+            if (!passes(test)) return test.getName();
+        }
+        return "";
+    }
+
+    private List<Method> tests() {
+        List<Method> tests = new ArrayList<>();
+        for (Method m : getClass().getDeclaredMethods()) {
+            if (m.isAnnotationPresent(Edge.class)) tests.add(m);
+        }
+        tests.sort(Comparator.comparing(Method::getName));
+        return tests;
     }
 
     private boolean passes(Method test) {

@@ -1,9 +1,5 @@
 /** Boundary cases of pieces: promises 8 to 12. */
 public final class EdgesPiecesTest extends Edges {
-    /** Twelve CRACKS, four of each of the sizes 1 to 3, and five PIECES of each. */
-    private static final String TWELVE = "top 12;rack 1 5;rack 2 5;rack 3 5;at 1 1 crack 1;at 2 1 crack 1;at 3 1 crack 1;"
-        + "at 4 1 crack 1;at 5 1 crack 2;at 6 1 crack 2;at 7 1 crack 2;at 8 1 crack 2;at 9 1 crack 3;at 10 1 crack 3;"
-        + "at 11 1 crack 3;at 12 1 crack 3;";
     private static final int[] NO_FEET = {0, -1, 13, 40, 41, MIN, MAX};
 
     public static void main(String[] args) {

@@ -117,6 +117,8 @@ public final class EdgesRopeTest extends Edges {
         due("slings(1, 0) of one that is off by 1", between(5, 6).slings(1, 0), 0);
         due("slings(10, 1) of one that is not off, from one side to the other", between(7, 9).slings(10, 1), 0);
         due("slings(10, 1) of one that is not off, from one side to the other", between(3, 1).slings(10, 1), 0);
+        due("slings(1, 1) of one that is off by 4, all in line behind it", between(9, 9).slings(1, 1), 1);
+        due("slings(1, 0) of one that is off by 4, all in line behind it", between(9, 9).slings(1, 0), 2);
         // They are off by 1 and by 2, or by 3 and by 4: a SLING saves as much at either.
         TwoOnWall x = Check.wall("top 3;rack 1 2;at 1 1 crack 1;at 2 1 crack 1 side 4;at 3 1 side 1;");
         x.put(1, 1);
@@ -212,6 +214,9 @@ public final class EdgesRopeTest extends Edges {
     void p24NoneAndBadFirst() {
         noStances("top 40;rope 1;");
         noStances("top 3;rope 1;at 1 1 rest;");
+        noStances("top 10;rope 2;at 2 1 rest;at 4 1 rest;");
+        noStances("top 10;rope 2;at 2 1 rest;at 4 1 rest;at 8 1 rest;");
+        noStances("top 10;rope 2;at 2 1 rest;at 4 1 rest;at 6 1 rest;at 7 1 rest;");
         noStances("top 3;rope 1;at 2 1 rest;");
     }
 

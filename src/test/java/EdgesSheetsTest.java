@@ -2,10 +2,6 @@
 public final class EdgesSheetsTest extends Edges {
     private static final int[] NO_SHEETS = {-1, 4, 5, MIN, MAX};
     private static final int[] NO_LANES = {-1, 3, MIN, MAX};
-    /** Twelve CRACKS, four of each of the sizes 1 to 3, and five PIECES of each. */
-    private static final String TWELVE = "top 12;rack 1 5;rack 2 5;rack 3 5;at 1 1 crack 1;at 2 1 crack 1;at 3 1 crack 1;"
-        + "at 4 1 crack 1;at 5 1 crack 2;at 6 1 crack 2;at 7 1 crack 2;at 8 1 crack 2;at 9 1 crack 3;at 10 1 crack 3;"
-        + "at 11 1 crack 3;at 12 1 crack 3;";
 
     public static void main(String[] args) {
         new EdgesSheetsTest().run(33, 39);
