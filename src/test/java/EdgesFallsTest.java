@@ -199,6 +199,18 @@ public final class EdgesFallsTest extends Edges {
         falls(x, 2, 0, 0, NONE, 0, 0, 1, 1);
     }
 
+    @Edge(of = 13, words = "HARM: h less what is STRUCK; 0: nothing is.")
+    void p13HarmOfNothingAndOfTheWholeWay() {
+        TwoOnWall x = Check.wall("top 40;");
+        for (int h = 1; h <= 40; h++) due("fall(" + h + ", 0, 5) to the ground", x.fall(h, 0, 5), h);
+        x = full("top 40;give 0;holds 60;rack 1 1;at 21 1 crack 1;at 39 1 ledge;");
+        due("fall(21, 1, 5)", x.fall(21, 1, 5), 0);
+        due("fall(39, 1, 5): the LEDGE is where one falls from", x.fall(39, 1, 5), 0);
+        due("fall(40, 1, 5): it is 1 below", x.fall(40, 1, 5), 1);
+        due("fall(39, 0, 5)", x.fall(39, 0, 5), 39);
+        due("fall(40, 0, 5)", x.fall(40, 0, 5), 1);
+    }
+
     // ---- promise 14: harm.
 
     @Edge(of = 14, words = "HARM of a FALL from a FOOT is d (1 to 40) or more: 0, 1. BAD.")

@@ -486,6 +486,22 @@ public final class EdgesSheetsTest extends Edges {
         due("torn() behind one that comes", x.torn(), 0);
     }
 
+    @Edge(of = 38, words = "A FAULT is what the machine finds: 1 NULL (nothing), 2 INDEX, 3 CAST (another lane), 4 SIZE (below 0).")
+    void p38WhatTheMachineFinds() {
+        for (int is = -1; is < 3; is++) {
+            for (int lane = 0; lane < 3; lane++) {
+                TwoOnWall x = Check.wall(TWELVE);
+                if (is >= 0) lay(x, 1, is, 1, 1);
+                int due = is < 0 ? 1 : is != lane ? 3 : 0;
+                due("SIZE makes no row and is no FAULT of read()", x.sheet(1, lane, -1), -14);
+                due("read of lane " + lane, x.read(1, lane, 0, 1), due == 0 ? 1 : 0);
+                due("torn()", x.torn(), due);
+                due("read beyond", x.read(1, lane, 1, 1), 0);
+                due("torn()", x.torn(), due == 0 ? 2 : due);
+            }
+        }
+    }
+
     @Edge(of = 38, words = "The FAULT of the latest read() that answered 0 or more; 0")
     void p38OtherCallsLeaveIt() {
         TwoOnWall x = Check.wall(TWELVE);
