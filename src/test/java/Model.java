@@ -10,7 +10,7 @@ import java.util.TreeMap;
  * The document once more, in its plainest and dearest form: everything is tried out over all sets
  * and all rows. ModelTest compares the class with it. Rows are only tried out on small walls.
  */
-final class Model {
+class Model {
     static final int BAD = -1, STATE = -2, FULL = -3, NONE = -4;
 
     /** A wall as a text tells it; NEARLY and FITS are kept with the pieces. */
@@ -697,7 +697,7 @@ final class Model {
         return all.signum() == 0 ? NONE : fraction(here, all, what);
     }
 
-    private boolean boltsDo(List<Integer> row) {
+    boolean boltsDo(List<Integer> row) {
         for (int h = 1; h <= top(); h++) {
             if (h <= r("low") && (row.isEmpty() || h <= row.get(0))) continue;
             int at = 0;
@@ -713,7 +713,7 @@ final class Model {
         return true;
     }
 
-    private List<Integer> boltRow() {
+    List<Integer> boltRow() {
         List<Integer> best = null;
         for (int bits = 0; bits < 1 << top(); bits++) {
             List<Integer> row = new ArrayList<>();

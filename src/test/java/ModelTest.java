@@ -1,19 +1,24 @@
 import java.util.Random;
 
-/** Runs of random calls (the same ones each time), each answered by the class and by the Model alike. */
+/** Runs of random calls (the same ones each time), each answered by the class and by the Model (on high walls: the WideModel) alike. */
 public final class ModelTest {
     private static final int MOST_CALLS = 512;
     private static final int RUNS = 400;
+    /** Every so many runs one is on high walls. */
+    private static final int WIDE = 4;
 
     private final Random random;
     private final TwoOnWall x = new TwoOnWall();
-    private final Model m = new Model();
+    private final boolean wide;
+    private final Model m;
     private final StringBuilder told = new StringBuilder();
     private int calls = 0;
     private boolean same = true;
 
     private ModelTest(long seed) {
         random = new Random(seed);
+        wide = seed % WIDE == 0;
+        m = wide ? new WideModel() : new Model();
     }
 
     public static void main(String[] args) {
@@ -68,10 +73,10 @@ public final class ModelTest {
 
     private String wallText() {
         StringBuilder b = new StringBuilder();
-        int top = among(1, 12);
+        int top = wide ? among(13, 40) : among(1, 12);
         b.append("top ").append(top).append(';');
         if (random.nextBoolean()) b.append("rope ").append(among(1, top + 4)).append(';');
-        if (random.nextInt(3) == 0) b.append("strength ").append(among(1, 60)).append(" ;");
+        if (random.nextInt(3) == 0) b.append("strength ").append(among(1, wide ? 200 : 60)).append(" ;");
         if (random.nextInt(3) == 0) b.append("place").append(upTo(12)).append(';');
         if (random.nextBoolean()) b.append("give ").append(upTo(50)).append(';');
         if (random.nextInt(3) == 0) b.append("fits ").append(upTo(20)).append(' ').append(upTo(20)).append(';');
@@ -80,8 +85,12 @@ public final class ModelTest {
         int sizes = among(1, 3);
         for (int s = 1; s <= sizes; s++) b.append("rack ").append(s).append(' ').append(upTo(5)).append(';');
         boolean many = random.nextInt(4) == 0;
-        for (int h = 1; h <= top; h++) {
-            if (random.nextInt(4) == 0 && !many) continue;
+        // Of a high wall so many FEET are told, from anywhere, as a text has room for.
+        int step = wide ? among(1, 40) : 1;
+        for (int i = 1; i <= Math.min(top, 24); i++) {
+            // 41 is prime: no FOOT is met twice.
+            int h = i * step % 41;
+            if (h > top || random.nextInt(4) == 0 && !many) continue;
             b.append("at ").append(h).append(' ').append(mostly() ? among(0, 9) : 0).append(blanks());
             if (random.nextInt(3) > 0 || many) b.append("crack ").append(among(1, sizes)).append(blanks());
             if (random.nextInt(6) == 0) b.append("ledge").append(blanks());
@@ -136,11 +145,11 @@ public final class ModelTest {
 
     /** What is asked of a row: one of the first few, or one of it. */
     private int rowWhat(int few) {
-        return random.nextBoolean() ? upTo(few) : among(9, 15);
+        return random.nextBoolean() ? upTo(few) : among(9, wide ? 22 : 15);
     }
 
     private boolean small() {
-        return m.top() <= 12;
+        return wide || m.top() <= 12;
     }
 
     private void call() {
